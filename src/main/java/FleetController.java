@@ -384,13 +384,9 @@ public final class FleetController {
       return (open[2 * move + (c >> 6)] >>> c & 1L) != 0;
     }
 
-    boolean isMove(int from, int to) {
-      for (int move = 0; move < MOVES; move++) {
-        if (isOpen(from, move) && from + steps[move] == to) {
-          return true;
-        }
-      }
-      return false;
+    boolean isWithinAMove(int from, int to) {
+      int across = Math.max(width, 1);
+      return Math.abs(from / across - to / across) + Math.abs(from % across - to % across) <= 1;
     }
 
     boolean hasAllKinds() {
@@ -935,7 +931,7 @@ public final class FleetController {
         if (map.kindAt(after) == WALL) {
           alarms++;
         }
-        if (!map.isMove(before, after)) {
+        if (!map.isWithinAMove(before, after)) {
           alarms++;
         }
         for (int q = 0; q < r; q++) {

@@ -469,11 +469,10 @@ final class FleetModel {
   private void monitor(int[] before) {
     for (int r = 0; r < robots.size(); r++) {
       int c = robots.get(r).at(time);
-      boolean isMove = false;
-      for (int move = 0; move <= 4; move++) {
-        isMove |= moved(before[r], move) == c;
-      }
-      alarms += isMove ? 0 : 1;
+      int width = lines[0].length();
+      int lineSteps = Math.abs(c / width - before[r] / width);
+      int columnSteps = Math.abs(c % width - before[r] % width);
+      alarms += lineSteps + columnSteps > 1 ? 1 : 0;
       alarms += cell(c) == 0 ? 1 : 0;
       for (int q = 0; q < r; q++) {
         int d = robots.get(q).at(time);

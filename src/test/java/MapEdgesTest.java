@@ -43,6 +43,7 @@ public final class MapEdgesTest {
     howManyCells();
     textStays();
     allIsGone();
+    anotherMapEachTime();
     faultLeavesAll();
     faultWithoutAMap();
     placeOfTheLatestRead();
@@ -445,6 +446,28 @@ public final class MapEdgesTest {
     Check.due("moves", x.count(10), 8);
     Check.due("ways", x.count(8), 1);
     Check.due("the longest", x.count(9), 8);
+  }
+
+  private static void anotherMapEachTime() {
+    Check.sentence("The map is READ from the text; all that was is gone");
+    String[] texts = {"p.s/.../t..", "p.s/.#./t..", "t.s/..#/p#.", "p.s/.../t..", "p.s/.#./t.."};
+    int[] far = {2, 4, NONE, 2, 4};
+    FleetController x = new FleetController();
+    for (int i = 0; i < texts.length; i++) {
+      x.erase();
+      Check.typeAll(x, texts[i]);
+      Check.due("read() of " + texts[i], x.read(), 9);
+      Check.due("distance(1, 7) in " + texts[i], x.distance(1, 7), far[i]);
+      int parking = x.cell(0) == 4 ? 0 : 6;
+      Check.due("robot(" + parking + ")", x.robot(parking), 0);
+      for (int what = 5; what <= 7; what++) {
+        Check.due("robotOf(0, " + what + ") of the new one", x.robotOf(0, what), 0);
+      }
+      Check.due("order", x.order(6 - parking, 2, 2, NONE), 0);
+      Check.due("all is brought", x.settle(200) > 0 && x.count(3) == 0 ? 1 : 0, 1);
+      Check.due("two of them", x.robotOf(0, 6), 2);
+      Check.due("ways", x.count(8), 2);
+    }
   }
 
   private static void faultLeavesAll() {

@@ -28,6 +28,10 @@ public final class TickEdgesTest {
     whereAnotherLeaves();
     noChangeOfPlaces();
     noOtherComesToItsLastCell();
+    comesThroughJustBeforeItsEnd();
+    waitsUntilTheWayIsFree();
+    waysOfTheLastCells();
+    longWay();
     lesserMoveWhereTheyDiffer();
     monitorCountsNothing();
     oneTo200Ticks();
@@ -276,9 +280,13 @@ public final class TickEdgesTest {
     FleetController x = withRobots("p#s#t/...../t#s#p", 0, 14);
     x.order(4, 2, NONE, NONE);
     x.order(10, 12, NONE, NONE);
-    x.tick(9);
+    x.tick(1);
+    Check.plan(x, 0, 5, 6, 7, 2, 7, 8, 9, 4);
+    Check.plan(x, 1, 14, 9, 8, 7, 12, 7, 6, 5, 10, 10);
+    x.tick(8);
     Check.path(x, 0, 0, 0, 5, 6, 7, 2, 7, 8, 9, 4, 4);
     Check.path(x, 1, 0, 14, 14, 9, 8, 7, 12, 7, 6, 5, 10);
+    Check.due("count(7)", x.count(7), 0);
   }
 
   private static void notWhereAnothersEndIs() {
@@ -303,6 +311,11 @@ public final class TickEdgesTest {
     x.tick(9);
     Check.path(x, 0, 0, 0, 5, 6, 7, 2, 7, 8, 9, 4, 4);
     Check.path(x, 1, 0, 10, 10, 5, 6, 7, 12, 7, 8, 9, 14);
+    Check.due("robot 0 brought", x.task(0, 8), 8);
+    Check.due("robot 1 took", x.task(1, 6), 0);
+    Check.due("robot 1 picked", x.task(1, 7), 5);
+    Check.due("robot 1 brought", x.task(1, 8), 9);
+    Check.due("count(7)", x.count(7), 0);
   }
 
   // Without a stay the two would change places between 8 and 9 in the tick from 5 on, with one stay
@@ -315,6 +328,8 @@ public final class TickEdgesTest {
     x.tick(11);
     Check.path(x, 0, 0, 0, 6, 7, 8, 2, 8, 9, 10, 11, 5, 5, 5);
     Check.path(x, 1, 0, 17, 17, 17, 11, 10, 9, 15, 9, 8, 7, 6, 12);
+    Check.due("count(7)", x.count(7), 0);
+    Check.due("count(9)", x.count(9), 11);
   }
 
   // Robot 0 is in 4 at 4; robot 1, that could be there at 3, comes at 5.
@@ -336,6 +351,108 @@ public final class TickEdgesTest {
       y.tick(4);
       Check.due("told at " + told, y.task(1, 8), Math.max(5, told + 2));
     }
+  }
+
+  // Robot 0 comes through 10 at 4 and ends in 11 at 5; robot 1 could be in 10 at 3, and comes at 5.
+  private static void comesThroughJustBeforeItsEnd() {
+    Check.sentence("at the last time and all later ones no other robot's path comes to its last cell");
+    FleetController x = withRobots("....../p.s.tt/...ps./......", 6, 15);
+    x.order(11, 8, NONE, NONE);
+    x.tick(1);
+    x.order(10, 16, NONE, NONE);
+    x.tick(4);
+    Check.path(x, 0, 0, 6, 7, 8, 9, 10, 11);
+    Check.path(x, 1, 0, 15, 15, 15, 15, 16, 10);
+    Check.due("brought", x.task(1, 8), 5);
+  }
+
+  // Robot 0 comes out of 13 into 4 at 8, so robot 1 can be in 13 at 8, not before.
+  private static void waitsUntilTheWayIsFree() {
+    Check.sentence("Of all such rows the shortest; of these the one with the lesser move (a stay is the least)");
+    FleetController x = withRobots("p#s#t#t#p/.........", 0, 8);
+    x.order(4, 2, NONE, NONE);
+    x.order(6, 2, NONE, NONE);
+    Check.due("settle(200)", x.settle(200), 17);
+    Check.path(x, 0, 0, 0, 9, 10, 11, 2, 11, 12, 13, 4, 4);
+    Check.path(x, 1, 0, 8, 8, 8, 8, 17, 16, 15, 14, 13, 12, 11, 2, 11, 12, 13, 14, 15, 6);
+    Check.due("ticks of the longest", x.count(9), 17);
+  }
+
+  /** A map's lines at the lower edge of one with 80 cells, some columns from the left. */
+  private static String lowered(String map, int columns) {
+    String[] lines = map.split("/");
+    StringBuilder text = new StringBuilder();
+    for (int i = lines.length; i < 8; i++) {
+      text.append("##########/");
+    }
+    for (int i = 0; i < lines.length; i++) {
+      String line = "#".repeat(columns) + lines[i];
+      text.append(i == 0 ? "" : "/").append(line).append("#".repeat(10 - line.length()));
+    }
+    return text.toString();
+  }
+
+  /** The numbers in the lowered map of the cells of a map of three lines. */
+  private static int[] lowered(int width, int columns, int... cells) {
+    int[] there = new int[cells.length];
+    for (int i = 0; i < cells.length; i++) {
+      there[i] = 50 + 10 * (cells[i] / width) + cells[i] % width + columns;
+    }
+    return there;
+  }
+
+  // The ways that were found by hand above, once more where the cells have numbers up to 79.
+  private static void waysOfTheLastCells() {
+    Check.sentence("LINES (1 to 8, of one length, 1 to 10): THE WAY of a robot in the last of 80 cells");
+    for (int columns = 0; columns <= 5; columns++) {
+      int[] p = lowered(5, columns, 0, 10, 2, 12, 4, 14);
+      FleetController x = withRobots(lowered(COMB, columns), p[0], p[1]);
+      x.order(p[4], p[2], NONE, NONE);
+      x.order(p[5], p[3], NONE, NONE);
+      x.tick(9);
+      Check.path(x, 0, 0, lowered(5, columns, 0, 5, 6, 7, 2, 7, 8, 9, 4, 4));
+      Check.path(x, 1, 0, lowered(5, columns, 10, 10, 5, 6, 7, 12, 7, 8, 9, 14));
+    }
+    for (int columns = 0; columns <= 4; columns++) {
+      int[] p = lowered(6, columns, 0, 17, 2, 15, 5, 12);
+      FleetController x = withRobots(lowered("p#s##t/....../t##s#p", columns), p[0], p[1]);
+      x.order(p[4], p[2], NONE, NONE);
+      x.order(p[5], p[3], NONE, NONE);
+      x.tick(11);
+      Check.path(x, 0, 0, lowered(6, columns, 0, 6, 7, 8, 2, 8, 9, 10, 11, 5, 5, 5));
+      Check.path(x, 1, 0, lowered(6, columns, 17, 17, 17, 11, 10, 9, 15, 9, 8, 7, 6, 12));
+    }
+    for (int columns = 0; columns <= 5; columns++) {
+      int[] p = lowered(5, columns, 0, 3, 9, 1, 2);
+      FleetController x = withRobots(lowered("pttp#/....s/##.#.", columns), p[0], p[1]);
+      x.order(p[3], p[2], NONE, NONE);
+      x.tick(1);
+      x.order(p[4], p[2], NONE, NONE);
+      x.tick(8);
+      Check.path(x, 0, 0, lowered(5, columns, 0, 1, 2, 7, 8, 9, 8, 7, 2, 1));
+      Check.path(x, 1, 0, lowered(5, columns, 3, 3, 3, 8, 9, 14, 9, 8, 3, 2));
+    }
+    for (int columns = 0; columns <= 5; columns++) {
+      int[] p = lowered(5, columns, 5, 7, 9);
+      FleetController x = withRobots(lowered("...../p.s.t/.....", columns), p[0]);
+      x.order(p[2], p[1], NONE, NONE);
+      x.tick(4);
+      Check.path(x, 0, 0, lowered(5, columns, 5, 6, 7, 8, 9));
+    }
+  }
+
+  private static void longWay() {
+    Check.sentence("THE WAY of a robot, all through 80 cells");
+    FleetController x = withRobots("p........./#########./........../.#########/"
+        + "........../#########./........../s########t", 0);
+    x.order(79, 70, NONE, NONE);
+    Check.due("settle(200)", x.settle(200), 54);
+    Check.path(x, 0, 0, 0, 1, 2, 3, 4, 5, 6, 7, 8, 9, 19, 29, 28, 27, 26, 25, 24, 23, 22, 21, 20, 30);
+    Check.path(x, 0, 22, 40, 41, 42, 43, 44, 45, 46, 47, 48, 49, 59, 69, 68, 67, 66, 65, 64, 63, 62, 61, 60, 70);
+    Check.path(x, 0, 44, 60, 61, 62, 63, 64, 65, 66, 67, 68, 69, 79);
+    Check.due("picked", x.task(0, 7), 43);
+    Check.due("moves", x.robotOf(0, 5), 54);
+    Check.due("the longest way", x.count(9), 54);
   }
 
   private static void lesserMoveWhereTheyDiffer() {

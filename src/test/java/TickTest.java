@@ -1,4 +1,4 @@
-/** Promises 11 to 15 and 18: ticks, ways, and what is told of robots and in all. */
+/** Promises 11 to 15 and 18: ticks, who takes what, and what is told of robots and in all. */
 public final class TickTest {
   private static final int NONE = FleetController.NONE;
   private static final int BAD = FleetController.BAD;
@@ -11,11 +11,6 @@ public final class TickTest {
     wrongTicks();
     theLastTime();
     settling();
-    oneBehindTheOther();
-    waitsAtOnce();
-    noChangeOfPlaces();
-    endsWhereNobodyComes();
-    leastMoves();
     nearestTask();
     endsOfOthers();
     whatIsToldOfARobot();
@@ -78,92 +73,6 @@ public final class TickTest {
     x.cancel(1);
     Check.due("settle behind cancel", x.settle(1), 0);
     Check.due("time", x.count(6), 8);
-  }
-
-  private static void oneBehindTheOther() {
-    FleetController x = Check.withMap(COMB);
-    x.robot(0);
-    x.robot(10);
-    x.order(4, 2, NONE, NONE);
-    x.order(14, 12, NONE, NONE);
-    Check.due("settle(200)", x.settle(200), 9);
-    Check.path(x, 0, 0, 0, 5, 6, 7, 2, 7, 8, 9, 4, 4);
-    Check.path(x, 1, 0, 10, 10, 5, 6, 7, 12, 7, 8, 9, 14);
-    Check.due("task(0, 8)", x.task(0, 8), 8);
-    Check.due("task(1, 6)", x.task(1, 6), 0);
-    Check.due("task(1, 7)", x.task(1, 7), 5);
-    Check.due("task(1, 8)", x.task(1, 8), 9);
-    Check.due("count(7)", x.count(7), 0);
-  }
-
-  // Robot 1 would be in 7 at time 3 as robot 0 is; of the ways with one stay that with the stay first.
-  private static void waitsAtOnce() {
-    FleetController x = Check.withMap("p#s#t/...../t#s#p");
-    x.robot(0);
-    x.robot(14);
-    x.order(4, 2, NONE, NONE);
-    x.order(10, 12, NONE, NONE);
-    x.tick(1);
-    Check.plan(x, 0, 5, 6, 7, 2, 7, 8, 9, 4);
-    Check.plan(x, 1, 14, 9, 8, 7, 12, 7, 6, 5, 10, 10);
-    Check.due("settle(200)", x.settle(200), 8);
-    Check.path(x, 1, 0, 14, 14, 9, 8, 7, 12, 7, 6, 5, 10);
-    Check.due("count(7)", x.count(7), 0);
-  }
-
-  // Without a stay the two would change places between 8 and 9 in the tick from 5 to 6, with one stay
-  // both would be in 9 at 6.
-  private static void noChangeOfPlaces() {
-    FleetController x = Check.withMap("p#s##t/....../t##s#p");
-    x.robot(0);
-    x.robot(17);
-    x.order(5, 2, NONE, NONE);
-    x.order(12, 15, NONE, NONE);
-    x.tick(12);
-    Check.path(x, 0, 0, 0, 6, 7, 8, 2, 8, 9, 10, 11, 5, 5);
-    Check.path(x, 1, 0, 17, 17, 17, 11, 10, 9, 15, 9, 8, 7, 6, 12, 12);
-    Check.due("count(7)", x.count(7), 0);
-    Check.due("count(9)", x.count(9), 11);
-  }
-
-  // Robot 0 comes through station 4 at time 4, so robot 1 may come to its end there from 5 on only.
-  private static void endsWhereNobodyComes() {
-    FleetController x = Check.withMap("p...t.s.t/...ps..../.........");
-    x.robot(0);
-    x.robot(12);
-    x.order(8, 6, NONE, NONE);
-    x.tick(1);
-    Check.plan(x, 0, 1, 2, 3, 4, 5, 6, 7, 8, 8);
-    x.order(4, 13, NONE, NONE);
-    x.tick(1);
-    Check.plan(x, 1, 12, 12, 13, 4, 4);
-    Check.due("robotOf(1, 4)", x.robotOf(1, 4), 3);
-    x.tick(6);
-    Check.path(x, 1, 0, 12, 12, 12, 12, 13, 4, 4, 4, 4);
-    Check.due("task(1, 6)", x.task(1, 6), 1);
-    Check.due("task(1, 7)", x.task(1, 7), 4);
-    Check.due("task(1, 8)", x.task(1, 8), 5);
-    Check.due("task(0, 8)", x.task(0, 8), 8);
-    Check.due("count(7)", x.count(7), 0);
-  }
-
-  // Above comes before right, right before below, below before left.
-  private static void leastMoves() {
-    FleetController x = Check.withMap("..s/.../p.t");
-    x.robot(6);
-    x.order(8, 2, NONE, NONE);
-    x.tick(6);
-    Check.path(x, 0, 0, 6, 3, 0, 1, 2, 5, 8);
-    FleetController y = Check.withMap("..p/.../s.t");
-    y.robot(2);
-    y.order(8, 6, NONE, NONE);
-    y.tick(6);
-    Check.path(y, 0, 0, 2, 5, 8, 7, 6, 7, 8);
-    FleetController z = Check.withMap("p../.../t.s");
-    z.robot(0);
-    z.order(6, 8, NONE, NONE);
-    z.tick(6);
-    Check.path(z, 0, 0, 0, 1, 2, 5, 8, 7, 6);
   }
 
   private static void nearestTask() {
