@@ -19,8 +19,10 @@ public final class UnreachedTest {
     offNotToAPendingStation();
     offNotToAnothersEnd();
     offToTheLeastCell();
+    offByDistanceThroughPlaces();
     offByTheWay();
     offForItsOwnStationAlone();
+    offIsGoneWithRead();
     twoInOneCell();
     twoThatChangePlaces();
     oneInAWall();
@@ -71,6 +73,7 @@ public final class UnreachedTest {
   private static void goesOffToTheNearestPlace() throws ReflectiveOperationException {
     Check.sentence("it goes OFF: of places the one with the least distance becomes its end, by THE WAY there");
     FleetController x = shelfTaken();
+    Check.due("of two other cells", x.distance(0, 12), 4);
     x.tick(1);
     tellRobot(x, 0, 9, NONE, 0, 14, 1, 1, 0, 1);
     Check.plan(x, 0, 9, 14, 14);
@@ -137,6 +140,20 @@ public final class UnreachedTest {
     Check.plan(x, 0, 1, 0, 0);
   }
 
+  // 2 is two moves from 0 through the shelf in which robot 1 is, 7 is three by the floor alone.
+  private static void offByDistanceThroughPlaces() throws ReflectiveOperationException {
+    Check.sentence("the one with the least distance (through places, too)");
+    FleetController x = Check.withMap("tsp../..p../.....");
+    x.robot(2);
+    x.robot(7);
+    set(x, 0, 0);
+    set(x, 1, 1);
+    x.order(0, 1, NONE, NONE);
+    x.tick(1);
+    Check.due("2 and not 7", x.robotOf(0, 3), 2);
+    Check.plan(x, 0, 5, 6, 7, 2, 2);
+  }
+
   // Robot 1 leaves 14 for shelf 2 and is in 9 at 1, so robot 0 can be there at 2.
   private static void offByTheWay() throws ReflectiveOperationException {
     Check.sentence("by THE WAY there: otherwise its last cell is that to which it goes");
@@ -167,6 +184,24 @@ public final class UnreachedTest {
     Check.due("robot 0 in 18 stays", x.robotOf(0, 0), 18);
     Check.due("and is not off", x.robotOf(0, 7), 0);
     Check.due("robot 2 in 4 is off", x.robotOf(2, 7), 1);
+  }
+
+  private static void offIsGoneWithRead() throws ReflectiveOperationException {
+    Check.sentence("robots, orders and all that was are gone");
+    FleetController x = shelfTaken();
+    x.tick(1);
+    Check.due("off", x.robotOf(0, 7), 1);
+    x.order(4, 12, 12, NONE);
+    x.read();
+    x.robot(0);
+    x.robot(10);
+    Check.due("off no more", x.robotOf(0, 7), 0);
+    set(x, 0, 4);
+    set(x, 1, 2);
+    x.order(14, 2, NONE, NONE);
+    x.tick(1);
+    Check.due("no task to 4 is pending any more", x.robotOf(0, 7), 0);
+    Check.due("so robot 0 stays", x.robotOf(0, 0), 4);
   }
 
   private static FleetController withThree() {
